@@ -9,7 +9,15 @@ public final class RenewalClocks {
     private static final int DRAWN = 1;
     private static final int IN_BURSTS = 2;
 
+    /** Some of what clockOf tells. */
+    private static final int TOLD = 8;
+    private static final int SUM = 9;
+    private static final int LONGEST = 10;
+    private static final int PASSENGERS = 11;
+    private static final int WAITED = 12;
+
     private static final int MOST_CLOCKS = 6;
+    private static final int ALL_CLOCKS = (1 << MOST_CLOCKS) - 1;
     private static final int MOST_GROUPS = 4;
     private static final int MOST_IN_GROUP = 4;
     private static final int MOST_STATES = 4;
@@ -115,7 +123,7 @@ public final class RenewalClocks {
             case 4:
                 return asked.met;
             default:
-                return hall.sumTold(asked.members);
+                return hall.sumOver(asked.members, SUM);
         }
     }
 
@@ -170,7 +178,7 @@ public final class RenewalClocks {
     }
 
     public long longer() {
-        return bitsOf((double) hall.waitedByAll() - hall.waitDueToAll());
+        return bitsOf((double) hall.sumOver(ALL_CLOCKS, WAITED) - hall.waitDueToAll());
     }
 
     public int count(int what) {
@@ -184,11 +192,11 @@ public final class RenewalClocks {
             case 3:
                 return hall.drawn;
             case 4:
-                return hall.toldByAll();
+                return hall.sumOver(ALL_CLOCKS, TOLD);
             case 5:
-                return hall.passengersOfAll();
+                return hall.sumOver(ALL_CLOCKS, PASSENGERS);
             case 6:
-                return hall.waitedByAll();
+                return hall.sumOver(ALL_CLOCKS, WAITED);
             case 7:
                 return hall.aboutToTell();
             case 8:
@@ -231,7 +239,7 @@ public final class RenewalClocks {
         if (what < 0 || what > 2) {
             return INVALID_ARGUMENT;
         }
-        tryText();
+        orders.tryOut(hall, trial);
         if (orders.reason == NO_FAULT) {
             return NOT_FOUND;
         }
@@ -242,18 +250,13 @@ public final class RenewalClocks {
     }
 
     public int play() {
-        tryText();
+        orders.tryOut(hall, trial);
         if (orders.reason != NO_FAULT) {
             return NOT_POSSIBLE;
         }
         history.note(hall);
         hall.copyFrom(trial);
         return settle(orders.many);
-    }
-
-    private void tryText() {
-        trial.copyFrom(hall);
-        orders.doAll(trial);
     }
 
     /** All errors are below 0 and no answer of a change is, so the answer alone tells what to keep. */
@@ -331,7 +334,9 @@ public final class RenewalClocks {
             sum += gap * times;
             squares += gap * gap * times;
             waits += gap * (gap + 1) / 2 * times;
-            longest = Math.max(longest, gap);
+            if (gap > longest) {
+                longest = gap;
+            }
         }
 
         void copyFrom(Gaps other) {
@@ -421,15 +426,12 @@ public final class RenewalClocks {
 
         void beginAt(int newPlace) {
             place = newPlace;
-            gap = gapAt(newPlace);
-            rest = gap;
-        }
-
-        private int gapAt(int asked) {
             if (law == IN_BURSTS) {
-                return asked < numbers[1] ? numbers[0] : numbers[2];
+                gap = place < numbers[1] ? numbers[0] : numbers[2];
+            } else {
+                gap = place >= 0 && place < numbers.length ? numbers[place] : numbers[0];
             }
-            return asked >= 0 && asked < numbers.length ? numbers[asked] : numbers[0];
+            rest = gap;
         }
 
         /** Tells whether the gap has come to its end with this tick. */
@@ -455,15 +457,15 @@ public final class RenewalClocks {
                     return age();
                 case 7:
                     return rest;
-                case 8:
+                case TOLD:
                     return told.many;
-                case 9:
+                case SUM:
                     return told.sum;
-                case 10:
+                case LONGEST:
                     return told.many == 0 ? NOT_FOUND : told.longest;
-                case 11:
+                case PASSENGERS:
                     return passengers;
-                case 12:
+                case WAITED:
                     return waited;
                 default:
                     return wound;
@@ -679,11 +681,12 @@ public final class RenewalClocks {
             return least;
         }
 
-        int sumTold(int members) {
+        /** The sum of what Clock.tell answers, over a set of clocks. */
+        int sumOver(int set, int what) {
             int sum = 0;
             for (int i = 0; i < clockCount && i < clocks.length; i++) {
-                if ((members & (1 << i)) != 0) {
-                    sum += clocks[i].told.sum;
+                if ((set & (1 << i)) != 0) {
+                    sum += clocks[i].tell(what);
                 }
             }
             return sum;
@@ -707,30 +710,6 @@ public final class RenewalClocks {
                 }
             }
             return ahead;
-        }
-
-        int toldByAll() {
-            int told = 0;
-            for (int i = 0; i < clockCount && i < clocks.length; i++) {
-                told += clocks[i].told.many;
-            }
-            return told;
-        }
-
-        int passengersOfAll() {
-            int passengers = 0;
-            for (int i = 0; i < clockCount && i < clocks.length; i++) {
-                passengers += clocks[i].passengers;
-            }
-            return passengers;
-        }
-
-        int waitedByAll() {
-            int waited = 0;
-            for (int i = 0; i < clockCount && i < clocks.length; i++) {
-                waited += clocks[i].waited;
-            }
-            return waited;
         }
 
         /** What the passengers of all clocks would have waited by the law alone. */
@@ -821,7 +800,7 @@ public final class RenewalClocks {
         }
     }
 
-    /** Reads the text's orders and does them, up to the first one that is not possible. */
+    /** Reads the text's orders and does them in a trial, up to the first one that is not possible. */
     private static final class Orders {
         private final Text text;
         private final int[] numbers = new int[ORDER_NUMBERS];
@@ -835,29 +814,30 @@ public final class RenewalClocks {
             this.text = text;
         }
 
-        void doAll(Hall hall) {
+        /** Leaves in the trial what the hall would be, if there is no fault. */
+        void tryOut(Hall hall, Hall trial) {
+            trial.copyFrom(hall);
             at = 0;
             many = 0;
             reason = NO_FAULT;
-            for (int i = 0; i < MOST_SIGNS && at < text.length && reason == NO_FAULT; i++) {
+            for (int i = 0; i < MOST_SIGNS && at < text.length; i++) {
                 start = at;
-                doNext(hall);
+                if (!readOrder()) {
+                    setFault(WRONG_FORM, at - start);
+                    return;
+                }
+                int answer = obey(trial);
+                if (answer < 0) {
+                    setFault(REFUSED, answer);
+                    return;
+                }
+                many++;
             }
         }
 
-        private void doNext(Hall hall) {
-            if (!readOrder()) {
-                reason = WRONG_FORM;
-                cause = at - start;
-                return;
-            }
-            int answer = obey(hall);
-            if (answer < 0) {
-                reason = REFUSED;
-                cause = answer;
-                return;
-            }
-            many++;
+        private void setFault(int newReason, int newCause) {
+            reason = newReason;
+            cause = newCause;
         }
 
         /** If the order is not of its form, the reading stands where it breaks off. */
