@@ -137,7 +137,7 @@ public final class RenewalClocks {
     }
 
     public int would(int clock, int ticks, int what) {
-        if (hall.clockAt(clock) == null || ticks < 1 || ticks > MOST_TICKS || what < 0 || what > 3) {
+        if (ticks < 1 || ticks > MOST_TICKS || what < 0 || what > 3) {
             return INVALID_ARGUMENT;
         }
         trial.copyFrom(hall);

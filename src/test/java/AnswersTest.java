@@ -231,8 +231,12 @@ public final class AnswersTest {
         Check.dueDouble("longer(), below the law", x.longer(), -3.0);
         x = new RenewalClocks();
         x.clock(0, 1, 2, 0, 0);
+        x.passenger(0);
+        Check.dueDouble("longer(), a fraction below the law", x.longer(), 1.0 - 4.0 / 3.0);
+        x.undo();
         x.tick(1);
         x.passenger(0);
+        Check.dueDouble("longer(), a fraction above the law", x.longer(), 2.0 - 4.0 / 3.0);
         x.tick(2);
         x.passenger(0);
         x.passenger(0);
@@ -273,6 +277,13 @@ public final class AnswersTest {
         x.tick(4);
         // the clock 1 draws 2030, modulo 4 is 2: a gap of 20
         dueCounts(x, 3, 1, 8, 2030, 5, 2, 11, 1, 8, 4, 1);
+        x.tick(1);
+        // the clock 0 begins anew, the clock 1 has been in its 20 for 4 ticks, the clock 2 in its 10 for 3
+        dueCounts(x, 3, 1, 9, 2030, 6, 2, 11, 0, 4, 4, 1);
+        x.clock(0, 1, 0, 0, 0);
+        x.clock(0, 2, 0, 0, 0);
+        x.clock(0, 1, 0, 0, 0);
+        dueCounts(x, 6, 1, 9, 2030, 6, 2, 11, 8 + 32, 4, 4, 1);
         int[] wrong = {-1, 11, Integer.MAX_VALUE, Integer.MIN_VALUE};
         for (int what : wrong) {
             Check.due("count(" + what + ")", x.count(what), Check.INVALID);

@@ -4,6 +4,8 @@ public final class HistoryTest {
         everyChangeIsUndone();
         atMostFourStates();
         statesAreTheirOwn();
+        errorsKeepTheOldestState();
+        undoneClocksAndGroupsLeaveNothing();
         textIsNotRestored();
         answersAndErrorsAreNoChanges();
         Check.end();
@@ -103,6 +105,48 @@ public final class HistoryTest {
         Check.dueText("three undone", Check.all(x), told[0]);
         Check.due("the state before is dropped", x.undo(), Check.NOT_POSSIBLE);
         Check.due("the clock that joined last is in it", x.groupOf(0, 1), 3);
+    }
+
+    private static void errorsKeepTheOldestState() {
+        RenewalClocks x = new RenewalClocks();
+        for (int i = 1; i <= 7; i++) {
+            x.tick(i);
+            Check.due("a wrong tick", x.tick(0), Check.INVALID);
+        }
+        // the ticks were 0, 1, 3, 6, 10, 15, 21
+        int[] ticks = {21, 15, 10, 6};
+        for (int i = 0; i < 4; i++) {
+            Check.due("undo()", x.undo(), 3 - i);
+            Check.due("the tick", x.count(2), ticks[i]);
+        }
+    }
+
+    private static void undoneClocksAndGroupsLeaveNothing() {
+        for (int law = 0; law <= 2; law++) {
+            RenewalClocks x = Check.typed(new RenewalClocks(), "c0,3,5,7,9;c1,2,4,6,8;t40;p0;p1;w0;w1;t1;");
+            x.play();
+            x.clock(0, 50, 50, 50, 50);
+            x.undo();
+            x.undo();
+            RenewalClocks fresh = Check.typed(new RenewalClocks(), "c0,3,5,7,9;c1,2,4,6,8;t40;p0;p1;w0;w1;t1;");
+            Check.due("the first clock", x.clock(law, 4, 9, law == 2 ? 1 : 0, 0), 0);
+            fresh.clock(law, 4, 9, law == 2 ? 1 : 0, 0);
+            Check.dueText("a clock of the law " + law + " after undo()", Check.all(x), Check.all(fresh));
+        }
+        RenewalClocks x = new RenewalClocks();
+        x.clock(0, 5, 0, 0, 0);
+        x.clock(0, 5, 0, 0, 0);
+        x.group(0);
+        x.join(0, 0);
+        x.join(0, 1);
+        x.tick(5);
+        Check.due("it met", x.groupOf(0, 4), 1);
+        Check.due("undo()", x.undo() + x.undo() + x.undo() + x.undo(), 6);
+        Check.due("group(2)", x.group(2), 0);
+        int[] told = {2, 0, Check.NOT_FOUND, 0, 0, 0};
+        for (int what = 0; what < told.length; what++) {
+            Check.due("groupOf(0, " + what + ") after undo()", x.groupOf(0, what), told[what]);
+        }
     }
 
     private static void textIsNotRestored() {
