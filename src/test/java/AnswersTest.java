@@ -237,6 +237,11 @@ public final class AnswersTest {
         x.tick(1);
         x.passenger(0);
         Check.dueDouble("longer(), a fraction above the law", x.longer(), 2.0 - 4.0 / 3.0);
+        RenewalClocks little = new RenewalClocks();
+        little.clock(0, 17, 3, 0, 0);
+        little.tick(9);
+        little.passenger(0);
+        Check.dueDouble("longer(), a little above the law", little.longer(), 8.0 - 159.0 / 20.0);
         x.tick(2);
         x.passenger(0);
         x.passenger(0);

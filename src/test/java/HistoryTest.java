@@ -132,6 +132,9 @@ public final class HistoryTest {
             Check.due("the first clock", x.clock(law, 4, 9, law == 2 ? 1 : 0, 0), 0);
             fresh.clock(law, 4, 9, law == 2 ? 1 : 0, 0);
             Check.dueText("a clock of the law " + law + " after undo()", Check.all(x), Check.all(fresh));
+            x.tick(4);
+            fresh.tick(4);
+            Check.dueText("the same after its first gap", Check.all(x), Check.all(fresh));
         }
         RenewalClocks x = new RenewalClocks();
         x.clock(0, 5, 0, 0, 0);
