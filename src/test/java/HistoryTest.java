@@ -136,6 +136,15 @@ public final class HistoryTest {
             fresh.tick(4);
             Check.dueText("the same after its first gap", Check.all(x), Check.all(fresh));
         }
+        RenewalClocks one = new RenewalClocks();
+        one.clock(0, 9, 0, 0, 0);
+        one.clock(0, 1, 0, 0, 0);
+        one.undo();
+        Check.due("next(0) after undo()", one.next(0), 0);
+        Check.due("next(1) after undo()", one.next(1), Check.NOT_FOUND);
+        Check.due("count(7) after undo()", one.count(7), 0);
+        Check.due("tick(8) after undo()", one.tick(8), 0);
+        Check.due("count(7) after undo()", one.count(7), 1);
         RenewalClocks x = new RenewalClocks();
         x.clock(0, 5, 0, 0, 0);
         x.clock(0, 5, 0, 0, 0);
