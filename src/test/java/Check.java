@@ -1,3 +1,6 @@
+import java.util.function.Supplier;
+import java.util.function.ToLongFunction;
+
 /** What the tests share: answers that are due, orders typed as texts, and all that a hall tells. */
 final class Check {
     static final int INVALID = -1000001;
@@ -7,15 +10,25 @@ final class Check {
 
     private static int checked = 0;
     private static int wrong = 0;
+    private static String sentence = "";
 
     private Check() {
+    }
+
+    /** The words of the document that the answers below are held against; told with each that is wrong. */
+    static void sentence(String words) {
+        sentence = words;
+    }
+
+    private static void tellWrong(String what) {
+        wrong++;
+        System.out.println(sentence.isEmpty() ? what : what + "  [" + sentence + "]");
     }
 
     static void due(String call, long got, long want) {
         checked++;
         if (got != want) {
-            wrong++;
-            System.out.println(call + " answered " + got + ", due is " + want);
+            tellWrong(call + " answered " + got + ", due is " + want);
         }
     }
 
@@ -26,16 +39,14 @@ final class Check {
     static void dueText(String what, String got, String want) {
         checked++;
         if (!got.equals(want)) {
-            wrong++;
-            System.out.println(what + ":\n  is     " + got + "\n  due is " + want);
+            tellWrong(what + ":\n  is     " + got + "\n  due is " + want);
         }
     }
 
     static void dueTrue(String what, boolean holds) {
         checked++;
         if (!holds) {
-            wrong++;
-            System.out.println(what);
+            tellWrong(what);
         }
     }
 
@@ -69,7 +80,8 @@ final class Check {
                 told.append(x.count(what)).append(' ');
             }
         }
-        for (int clock = 0; clock < x.count(0); clock++) {
+        int clocks = x.count(0);
+        for (int clock = 0; clock < clocks; clock++) {
             told.append("\n  clock");
             for (int what = 0; what <= 13; what++) {
                 told.append(' ').append(x.clockOf(clock, what));
@@ -81,7 +93,8 @@ final class Check {
                 told.append(' ').append(x.would(clock, 77, what));
             }
         }
-        for (int group = 0; group < x.count(1); group++) {
+        int groups = x.count(1);
+        for (int group = 0; group < groups; group++) {
             told.append("\n  group");
             for (int what = 0; what <= 5; what++) {
                 told.append(' ').append(x.groupOf(group, what));
@@ -89,5 +102,44 @@ final class Check {
             told.append(' ').append(x.meets(group));
         }
         return told.append("\n  ").append(x.longer()).toString();
+    }
+
+    /** Less than all, so that several states of one object can be told within its 512 calls. */
+    private static String some(RenewalClocks x) {
+        StringBuilder told = new StringBuilder();
+        for (int what = 0; what <= 8; what++) {
+            told.append(x.count(what)).append(' ');
+        }
+        int clocks = x.count(0);
+        for (int clock = 0; clock < clocks; clock++) {
+            told.append(x.clockOf(clock, 7)).append(' ').append(x.clockOf(clock, 9)).append(' ');
+        }
+        int groups = x.count(1);
+        for (int group = 0; group < groups; group++) {
+            told.append(x.groupOf(group, 1)).append(' ').append(x.groupOf(group, 3)).append(' ');
+        }
+        return told.toString();
+    }
+
+    /** All that an object tells, and its text and its history, for which it is undone and played at the end. */
+    static String everything(RenewalClocks x) {
+        StringBuilder told = new StringBuilder("text " + x.count(10) + ", fault");
+        for (int what = 0; what <= 2; what++) {
+            told.append(' ').append(x.fault(what));
+        }
+        told.append(", states ").append(x.count(9)).append("\n  ").append(all(x));
+        int left = x.undo();
+        for (int i = 0; i < 9 && left != NOT_POSSIBLE; i++) {
+            told.append("\n  undo ").append(left).append(": ").append(some(x));
+            left = x.undo();
+        }
+        return told.append("\n  play ").append(x.play()).append(": ").append(some(x)).toString();
+    }
+
+    /** The call answers the error, and all behind it is as in an object made in the same way without it. */
+    static void refused(String call, Supplier<RenewalClocks> made, ToLongFunction<RenewalClocks> refused, long error) {
+        RenewalClocks x = made.get();
+        due(call, refused.applyAsLong(x), error);
+        dueText("all behind " + call, everything(x), everything(made.get()));
     }
 }
