@@ -29,6 +29,8 @@ public final class EdgesPromisesTest {
         countEverythingFull();
         greatestAge();
         restsOfOne();
+        lastCall();
+        mostPassengers();
         Check.end();
     }
 
@@ -476,5 +478,32 @@ public final class EdgesPromisesTest {
         }
         x = Halls.ofGaps(5);
         Check.due("count(7) of none", x.count(7), 0);
+    }
+
+    private static void lastCall() {
+        Check.sentence("An object is used for at most 512 calls after it has been made");
+        RenewalClocks x = new RenewalClocks();
+        x.clock(0, 1, 0, 0, 0);
+        for (int call = 2; call <= 510; call++) {
+            Check.due("the call " + call, x.tick(1), 1);
+        }
+        Check.due("the 511th call", x.clockOf(0, 8), 509);
+        Check.due("the 512th call", x.undo(), 3);
+        x = new RenewalClocks();
+        for (int call = 1; call <= 511; call++) {
+            x.undo();
+        }
+        Check.due("the 512th call", x.clock(0, 1, 0, 0, 0), 0);
+    }
+
+    private static void mostPassengers() {
+        Check.sentence("what they waited together, of as many as 512 calls can bring");
+        RenewalClocks x = Check.typed(Halls.ofGaps(50), Halls.FULL_TEXT);
+        for (int plays = 0; plays < 446; plays++) {
+            Check.due("play()", x.play(), 20);
+        }
+        Check.due("count(5)", x.count(5), 8920);
+        Check.due("count(6)", x.count(6), 446000);
+        Check.dueDouble("longer()", x.longer(), 446000.0 - 8920.0 * 25.5);
     }
 }
